@@ -27,6 +27,7 @@ public final class FaceTest {
             "public int RecordMatch.index(int,int) throws java.lang.ArrayIndexOutOfBoundsException");
 
     public static void main(String[] args) {
+        CHECKS.sentence("The public face");
         Set<String> seen = visibleMembers();
         for (String member : FACE) {
             CHECKS.due(member, seen.contains(member) ? 1 : 0, 1);
@@ -62,6 +63,7 @@ public final class FaceTest {
 
     /** The exceptions are of the very classes that the document names. */
     private static void exactExceptions() {
+        CHECKS.sentence("7: throws ArithmeticException, 14: throws ArrayIndexOutOfBoundsException");
         RecordMatch x = new RecordMatch();
         x.record(0);
         try {

@@ -33,6 +33,7 @@ public final class ModelTest {
 
     public static void main(String[] args) {
         Checks checks = new Checks();
+        checks.sentence("all promises");
         for (int run = 0; run < RUNS && checks.allRight(); run++) {
             new ModelTest(checks, run).play();
         }
